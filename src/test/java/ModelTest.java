@@ -24,6 +24,9 @@ public final class ModelTest {
         for (int seed = 0; seed < 300 && Due.wrong() < 20; seed++) {
             new ModelTest(seed, 3).runWater(seed);
         }
+        for (int seed = 0; seed < 3000 && Due.wrong() < 20; seed++) {
+            new ModelTest(seed, 4).runDays(seed);
+        }
         Due.end();
     }
 
@@ -47,13 +50,41 @@ public final class ModelTest {
     private void runWater(int seed) {
         TrayBench x = new TrayBench();
         Model model = new Model();
-        int calls = compare(seed, x, model, 0, new int[] {0, 2, 1});
-        while (calls + 8 <= 512) {
-            int m = random.nextInt(40) == 0 ? 6 : random.nextInt(50) == 0 ? 4 : 5;
-            int v = random.nextInt(3) == 0 ? random.nextInt() : random.nextInt(9) - 4;
-            v = v == 0 && random.nextInt(20) != 0 ? 1 : v;
-            calls += compare(seed, x, model, m, new int[] {0, 2, 0, v});
-            calls += compare(seed, x, model, 3, new int[] {0, 2, 0});
+        int[] one = {0, 2, 1};
+        int[] cell = {0, 2, 0};
+        Due.due("lay", x.lay(0, 2, 1), model.call(0, one));
+        Due.due("write", x.write(0, 2, 0, 4), model.call(4, new int[] {0, 2, 0, 4}));
+        // small factors alone come down to the smallest floats
+        boolean small = seed % 2 == 0;
+        for (int n = 0; n < 160; n++) {
+            int m = small || random.nextInt(20) != 0 ? 5 : random.nextBoolean() ? 6 : 4;
+            int v = small ? 1 + random.nextInt(3) : random.nextInt(3) == 0 ? random.nextInt() : random.nextInt(9) - 4;
+            int[] a = {0, 2, 0, random.nextBoolean() ? v : -v};
+            Due.due("seed " + seed + ": method " + m + " " + a[3], Model.call(x, m, a), model.call(m, a));
+            Due.due("read", x.read(0, 2, 0), model.call(3, cell));
+            Due.due("seed " + seed + ": method " + m + " " + a[3] + ", then", x.told(), model.call(TOLD, a));
+        }
+    }
+
+    /** A tray with nearly all its rows, some days, and a look at every cell. */
+    private void runDays(int seed) {
+        TrayBench x = new TrayBench();
+        Model model = new Model();
+        for (int sort = 0; sort < 5; sort++) {
+            if (random.nextInt(12) != 0) {
+                int n = random.nextInt(6) == 0 ? random.nextInt(reach) : reach;
+                compare(seed, x, model, 0, new int[] {0, sort, n});
+            }
+            for (int i = 0; i < reach; i++) {
+                int v = sort == 2 ? random.nextInt(20) : sort == 3 ? random.nextInt(5) : number();
+                compare(seed, x, model, 4, new int[] {0, sort, i, v});
+            }
+        }
+        for (int days = 0; days < 3; days++) {
+            compare(seed, x, model, 8, new int[] {0});
+        }
+        for (int cell = 0; cell < 5 * reach; cell++) {
+            compare(seed, x, model, 3, new int[] {0, cell / reach, cell % reach});
         }
     }
 
