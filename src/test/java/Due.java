@@ -1,10 +1,18 @@
-/** Counts the answers that are not the ones that are due, and prints them. */
+import java.io.IOException;
+import java.nio.file.Files;
+import java.nio.file.Path;
+import java.util.Arrays;
+import java.util.function.Supplier;
+import java.util.function.ToIntFunction;
+
+/** Counts the answers that are not the ones that are due, and prints them below their sentence. */
 final class Due {
     static final int MARKS = 0;
     static final int SEEDS = 1;
     static final int WATER = 2;
     static final int LIT = 3;
     static final int DAYS = 4;
+    static final int SORTS = 5;
 
     static final int NONE = -1;
     static final int LACK = 1;
@@ -12,15 +20,51 @@ final class Due {
     static final int SIZE = 3;
     static final int GREAT = 4;
 
+    static final int LEAST = Integer.MIN_VALUE;
+    static final int MOST = Integer.MAX_VALUE;
+
+    /** Stands for the section 'Terms' where the number of a promise is asked for. */
+    static final int TERMS = 0;
+
+    private static final Path DOCUMENT = Path.of("../shared/DOC.md");
+
     private static int wrong = 0;
 
     private Due() {
     }
 
+    /**
+     * Begins the test of a sentence. The words are looked up in the document, so that no test goes
+     * on to cite what the document no longer says.
+     */
+    static void sentence(int promise, String words) {
+        System.out.println((promise == TERMS ? "Terms" : "Promise " + promise) + ": '" + words + "'");
+        due("the document's section has these words", section(promise).contains(words) ? 1 : 0, 1);
+    }
+
+    private static String section(int promise) {
+        String heading = promise == TERMS ? "\n## Terms\n" : "\n## Promise " + promise + ": ";
+        String document = document();
+        int from = document.indexOf(heading);
+        if (from < 0) {
+            return "";
+        }
+        int to = document.indexOf("\n## ", from + heading.length());
+        return document.substring(from, to < 0 ? document.length() : to).replaceAll("\\s+", " ");
+    }
+
+    private static String document() {
+        try {
+            return Files.readString(DOCUMENT);
+        } catch (IOException e) {
+            return "";
+        }
+    }
+
     static void due(String what, long got, long want) {
         if (got != want) {
             wrong++;
-            System.out.println(what + " answered " + got + ", due is " + want);
+            System.out.println("  " + what + " answered " + got + ", due is " + want);
         }
     }
 
@@ -35,7 +79,48 @@ final class Due {
     }
 
     static void water(String what, TrayBench x, int tray, int i, float number) {
-        cell(what, x, tray, WATER, i, Float.floatToRawIntBits(number));
+        cell(what, x, tray, WATER, i, bits(number));
+    }
+
+    static int bits(float number) {
+        return Float.floatToRawIntBits(number);
+    }
+
+    /** The call is due to answer so and to do nothing: what it was made on stays as made. */
+    static void refused(String what, Supplier<TrayBench> made, ToIntFunction<TrayBench> call, int answer) {
+        TrayBench x = made.get();
+        due(what, call.applyAsInt(x), answer);
+        same(what, x, made.get());
+    }
+
+    /** As refused(), but the call may tell something. */
+    static void onlyTells(String what, Supplier<TrayBench> made, ToIntFunction<TrayBench> call, int number) {
+        TrayBench x = made.get();
+        tells(what, x, call.applyAsInt(x), number);
+        same(what, "but for told()", Sample.rest(x), Sample.rest(made.get()));
+    }
+
+    static void same(String what, TrayBench x, TrayBench other) {
+        due(what + ", then told()", x.told(), other.told());
+        same(what, "with all", Sample.rest(x), Sample.rest(other));
+    }
+
+    /** Of all that the object holds, only the named parts may be other than what the other one holds. */
+    static void onlyChanged(String what, TrayBench x, TrayBench other, Integer... parts) {
+        String[] got = Sample.rest(x).split(";");
+        String[] want = Sample.rest(other).split(";");
+        for (int n = 0; n < want.length; n++) {
+            if (!Arrays.asList(parts).contains(n)) {
+                same(what, "elsewhere", got[n], want[n]);
+            }
+        }
+    }
+
+    private static void same(String what, String extent, String got, String want) {
+        if (!got.equals(want)) {
+            wrong++;
+            System.out.println("  " + what + ", " + extent + ", left" + got + "\n  due is" + want);
+        }
     }
 
     static int wrong() {
