@@ -38,7 +38,8 @@ final class Due {
      * on to cite what the document no longer says; a checkout without the document can do without.
      */
     static void sentence(int promise, String words) {
-        System.out.println((promise == TERMS ? "Terms" : "Promise " + promise) + ": '" + words + "'");
+        String test = new Throwable().getStackTrace()[1].getMethodName();
+        System.out.println((promise == TERMS ? "Terms" : "Promise " + promise) + ", " + test + ": '" + words + "'");
         if (Files.exists(DOCUMENT)) {
             due("the document's section has these words", section(promise).contains(words) ? 1 : 0, 1);
         }

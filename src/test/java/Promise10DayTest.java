@@ -29,6 +29,7 @@ public final class Promise10DayTest {
         endsAtTheFirstOfSeveral();
         seedsLongerThanEach();
         tellsTheSum();
+        tellsAlsoWhenItEnds();
         tellsNothingWithoutSeeds();
         otherTraysAndPlotsStay();
         Due.end();
@@ -363,6 +364,25 @@ public final class Promise10DayTest {
         z.write(2, Due.WATER, 2, 3);
         Due.tells("of wet and lit cells alone", z, z.day(2), 4);
         Due.tells("anew each day", z, z.day(2), 0);
+    }
+
+    private static void tellsAlsoWhenItEnds() {
+        Due.sentence(10, TELLS);
+        TrayBench x = DayEnd.whole(4);
+        x.write(2, Due.SEEDS, 1, 32767);
+        x.write(2, Due.SEEDS, 2, -1);
+        x.lay(2, Due.LIT, 3);
+        x.write(2, Due.LIT, 0, 1);
+        x.write(2, Due.LIT, 1, 1);
+        x.write(2, Due.LIT, 2, 1);
+        endsTelling("by PLACE of LIT behind three cells", x, Due.PLACE, 2 + 8191 - 1);
+        endsTelling("by PLACE of LIT behind three dry cells", x, Due.PLACE, 0);
+        TrayBench y = DayEnd.whole(2);
+        y.take(2, Due.MARKS);
+        endsTelling("by LACK of MARKS, of seeds that had left", y, Due.LACK, 2);
+        y.length(2, Due.SEEDS);
+        y.take(2, Due.LIT);
+        endsTelling("by LACK of LIT, of none that had left", y, Due.LACK, 0);
     }
 
     private static void tellsNothingWithoutSeeds() {
