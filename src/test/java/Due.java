@@ -1,6 +1,5 @@
 import java.io.IOException;
-import java.nio.file.Files;
-import java.nio.file.Path;
+import java.io.UncheckedIOException;
 import java.util.Arrays;
 import java.util.function.Supplier;
 import java.util.function.ToIntFunction;
@@ -26,9 +25,16 @@ final class Due {
     /** Stands for the section 'Terms' where the number of a promise is asked for. */
     static final int TERMS = 0;
 
-    private static final Path DOCUMENT = Path.of("../shared/DOC.md");
+    private static final int MOST_SECONDS = 120;
 
     private static int wrong = 0;
+
+    static {
+        // a call that does not end must fail the test, not hold up all that come after it
+        Thread watch = new Thread(new Watch(Thread.currentThread(), MOST_SECONDS));
+        watch.setDaemon(true);
+        watch.start();
+    }
 
     private Due() {
     }
@@ -40,27 +46,26 @@ final class Due {
     static void sentence(int promise, String words) {
         String test = new Throwable().getStackTrace()[1].getMethodName();
         System.out.println((promise == TERMS ? "Terms" : "Promise " + promise) + ", " + test + ": '" + words + "'");
-        if (Files.exists(DOCUMENT)) {
-            due("the document's section has these words", section(promise).contains(words) ? 1 : 0, 1);
-        }
-    }
-
-    private static String section(int promise) {
-        String heading = promise == TERMS ? "\n## Terms\n" : "\n## Promise " + promise + ": ";
         String document = document();
-        int from = document.indexOf(heading);
-        if (from < 0) {
-            return "";
+        if (!document.isEmpty()) {
+            String heading = promise == TERMS ? "\n## Terms\n" : "\n## Promise " + promise + ": ";
+            String section = Texts.between(document, heading, "\n## ").replaceAll("\\s+", " ");
+            holds("the document's section has these words", section.contains(words));
         }
-        int to = document.indexOf("\n## ", from + heading.length());
-        return document.substring(from, to < 0 ? document.length() : to).replaceAll("\\s+", " ");
     }
 
     private static String document() {
         try {
-            return Files.readString(DOCUMENT);
+            return Texts.document();
         } catch (IOException e) {
-            return "";
+            throw new UncheckedIOException(e);
+        }
+    }
+
+    static void holds(String what, boolean so) {
+        if (!so) {
+            wrong++;
+            System.out.println("  does not hold: " + what);
         }
     }
 
